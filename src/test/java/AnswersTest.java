@@ -12,6 +12,7 @@ final class AnswersTest {
         missing();
         persons();
         laterQuestions();
+        fivePersons();
         due.end();
     }
 
@@ -33,6 +34,13 @@ final class AnswersTest {
         due.is("nobody at first", x.reason(39, 6, 0), BAD);
         due.is("the last one answers", x.answer(39, 2, -1, 4), 1);
         due.is("it alone", x.reason(38, 2, -1), 1);
+        due.is("no household 40", x.answer(40, 2, -1, 4), BAD);
+        due.is("no household 40", x.reason(40, 2, -1), BAD);
+        due.is("no household 40", x.weight(40, 1, 1), BAD);
+        HouseholdVault y = new HouseholdVault();
+        y.question(5, -1);
+        y.household();
+        due.is("a roster that is the first question", y.reason(0, 0, -1), 0);
     }
 
     private static void places() {
@@ -183,5 +191,39 @@ final class AnswersTest {
         int later = x.question(2, roster);
         due.is("a later question", x.reason(0, later, 1), 1);
         due.is("a later question at the top", x.reason(0, x.question(4, -1), -1), 1);
+    }
+
+    /** With all five there, what is told of them ends where the next question begins. */
+    private static void fivePersons() {
+        HouseholdVault x = new HouseholdVault();
+        int roster = x.question(5, -1);
+        int a = x.question(2, roster);
+        int b = x.question(2, roster);
+        int map = x.map(a);
+        int c = x.question(2, -1);
+        int sum = x.sum(a);
+        x.row(map, 0, 99, 7);
+        x.household();
+        x.household();
+        for (int h = 0; h < 2; h++) {
+            x.answer(h, roster, -1, 5);
+            for (int person = 0; person < 5; person++) x.answer(h, a, person, 10);
+            x.answer(h, b, 0, 1000);
+        }
+        x.missing(0, c, -1, 3);
+        due.is("a sum", x.value(0, sum, -1), 50);
+        due.is("a map", x.value(0, map, 4), 7);
+        due.is("behind the map", x.reason(0, c, -1), 3);
+        due.is("all answers stay", x.value(0, b, 0), 1000);
+        due.is("the last of them is not there", x.reason(0, b, 4), 1);
+        x.mark(roster, true);
+        x.answer(0, c, -1, 4);
+        due.is("doubles", x.doubles(), 1);
+        x.answer(1, a, 4, 11);
+        due.is("no doubles", x.doubles(), 0);
+        x.filter(b, x.ask(0, roster, 0));
+        due.is("against", x.against(), 2);
+        for (int person = 0; person < 5; person++) x.missing(0, b, person, 1);
+        due.is("against", x.against(), 1);
     }
 }

@@ -166,6 +166,12 @@ final class ConditionsTest {
         due.is("not, of one who is missing", x.holds(notMine, 0, 2), 1);
         due.is("how many are not", x.value(0, x.howMany(first, notMine), -1), 2);
         due.is("how many of either", x.value(0, x.howMany(first, topRoster), -1), 3);
+        int notTop = x.logic(2, topIs, 0);
+        int notTopOrMine = x.logic(1, notTop, mineIs);
+        due.is("not of the top, and a person who is", x.holds(notTopOrMine, 0, 1), 1);
+        due.is("not of the top, and a person who is not", x.holds(notTopOrMine, 0, 2), 0);
+        x.answer(0, top, -1, 2);
+        due.is("now not of the top", x.holds(notTopOrMine, 0, 2), 1);
     }
 
     private static void sizes() {

@@ -319,5 +319,19 @@ final class RanksTest {
         x.answer(0, other, -1, 3);
         x.answer(0, inOther, 0, 3);
         due.is("another roster is not looked at", x.doubles(), 1);
+        x.mark(other, true);
+        due.is("now it is", x.doubles(), 0);
+        HouseholdVault y = new HouseholdVault();
+        y.question(5, -1);
+        y.question(2, 0);
+        for (int h = 0; h < 2; h++) {
+            y.household();
+            y.answer(h, 0, -1, 1);
+            y.answer(h, 1, 0, h);
+        }
+        y.mark(0, true);
+        due.is("the question right behind its roster", y.doubles(), 0);
+        y.answer(0, 1, 0, 1);
+        due.is("the question right behind its roster", y.doubles(), 1);
     }
 }
