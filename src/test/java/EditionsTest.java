@@ -28,6 +28,9 @@ final class EditionsTest {
         due.is("still six", x.count(3), 6);
         due.is("of nothing", x.changes(0, 5), 0);
         due.is("of nothing", x.merge(5), 0);
+        due.is("no edition 6", x.merge(6), BAD);
+        due.is("no edition 6", x.changes(0, 6), BAD);
+        due.is("no edition 6", x.frozenReason(6, 0, 0, -1), BAD);
     }
 
     private static void frozen() {
