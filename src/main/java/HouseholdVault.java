@@ -386,7 +386,8 @@ public final class HouseholdVault {
         if (asked.roster != TOP || asked.kind < WHOLE || asked.kind > DAY || wanted.reach != TOP) return 0;
         int valued = sortRising(q, condition);
         if (valued == 0) return 0;
-        return risingValue(q, (valued - 1) * up / low);
+        int h = rising[(valued - 1) * up / low];
+        return households[h].sheet.values[spot(q, NONE)];
     }
 
     /** Puts the households with a value, for which the condition (if any) is so, in rising order; tells how many. */
@@ -404,17 +405,20 @@ public final class HouseholdVault {
     }
 
     private void insertRising(int q, int h, int valued) {
-        long v = households[h].sheet.values[spot(q, NONE)];
+        long height = heightOf(q, h);
         int to = valued;
-        while (to > 0 && risingValue(q, to - 1) > v) {
+        while (to > 0 && heightOf(q, rising[to - 1]) > height) {
             rising[to] = rising[to - 1];
             to--;
         }
         rising[to] = h;
     }
 
-    private long risingValue(int q, int k) {
-        return households[rising[k]].sheet.values[spot(q, NONE)];
+    /** Codes are names, not amounts: they rise in the order in which they came, whatever they are. */
+    private long heightOf(int q, int h) {
+        Question asked = form.questions[q];
+        long v = households[h].sheet.values[spot(q, NONE)];
+        return asked.kind == CODE ? asked.codeIndex(v) : v;
     }
 
     private int missingAt(int q, int k) {

@@ -533,8 +533,17 @@ final class Mirror {
         List<Integer> all = new ArrayList<>();
         for (int h = 0; h < weights.size(); h++) all.add(h);
         all.sort(Comparator.comparing((Integer h) -> told(h, q, -1).reason != 0)
-            .thenComparing(h -> told(h, q, -1).value).thenComparing(h -> h));
+            .thenComparing(h -> height(h, q)).thenComparing(h -> h));
         return all.get(k);
+    }
+
+    /** A value, or, of a CODE, its number: how many other CODES the question had ahead of it. */
+    private long height(int h, int q) {
+        long value = told(h, q, -1).value;
+        if (questions.get(q).kind != 0) return value;
+        long number = 0;
+        while (number < of(q, 2) && codeAt(q, (int) number) != value) number++;
+        return number;
     }
 
     long part(int q, int c, int up, int low) {

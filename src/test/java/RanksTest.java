@@ -7,6 +7,7 @@ final class RanksTest {
         rankRefusals();
         rank();
         rankByKinds();
+        rankByCodes();
         rankOfMany();
         part();
         partRefusals();
@@ -73,7 +74,7 @@ final class RanksTest {
         x.answer(0, 0, -1, 100);
         x.answer(1, 0, -1, 0);
         x.answer(2, 0, -1, -100);
-        ranksAre("codes by their numbers", x, 0, 2, 1, 0, 3);
+        ranksAre("codes by their numbers, not by themselves", x, 0, 0, 2, 1, 3);
         x.answer(3, 1, -1, -1000000000000000L);
         x.answer(2, 1, -1, 1000000000000000L);
         x.answer(0, 1, -1, 5000000000L);
@@ -89,7 +90,27 @@ final class RanksTest {
         int map = x.map(0);
         x.row(map, -100, 0, 5);
         x.row(map, 100, 100, 4);
-        ranksAre("a map", x, map, 0, 1, 2, 3);
+        ranksAre("a map by its own codes' numbers", x, map, 1, 2, 0, 3);
+    }
+
+    private static void rankByCodes() {
+        HouseholdVault x = new HouseholdVault();
+        x.question(0, -1);
+        int[] codes = {7, 127, -128, 3, 0, -1, 126, 1};
+        for (int c : codes) x.code(0, c);
+        for (int h = 0; h < 10; h++) x.household();
+        for (int h = 0; h < 8; h++) x.answer(h, 0, -1, codes[7 - h]);
+        x.answer(9, 0, -1, 127);
+        ranksAre("eight codes", x, 0, 7, 6, 9, 5, 4, 3, 2, 1, 0, 8);
+        x.missing(7, 0, -1, 2);
+        x.answer(8, 0, -1, 7);
+        ranksAre("the first code again", x, 0, 8, 6, 9, 5, 4, 3, 2, 1, 0, 7);
+        int map = x.map(0);
+        ranksAre("a map without rows", x, map, 0, 1, 2, 3, 4, 5, 6, 7, 8, 9);
+        x.row(map, 100, 127, 50);
+        x.row(map, -128, 0, -50);
+        x.row(map, 1, 3, 50);
+        ranksAre("a code of two rows has the number of its first", x, map, 0, 1, 4, 6, 9, 2, 3, 5, 7, 8);
     }
 
     private static void rankOfMany() {
