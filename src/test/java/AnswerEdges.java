@@ -71,6 +71,14 @@ final class AnswerEdges {
                 edges.is("the ROSTER itself, person" + at, x.reason(h, Scene.ROSTER, person), person == -1 ? 0 : BAD);
             }
         }
+        for (int q = 6; q < 11; q++) {
+            for (int person = 0; person < 5; person++) x.missing(1, q, person, 1 + (q + person) % 5);
+        }
+        for (int q = 6; q < 11; q++) {
+            for (int person = 0; person < 5; person++) {
+                edges.is("each PLACE has its own", x.reason(1, q, person), 1 + (q + person) % 5);
+            }
+        }
         edges.is("person MIN", x.reason(1, Scene.DAY_IN, Integer.MIN_VALUE), BAD);
         edges.is("person MAX", x.reason(1, Scene.DAY_IN, Integer.MAX_VALUE), BAD);
         edges.is("person MIN at the TOP", x.reason(1, Scene.DAY, Integer.MIN_VALUE), BAD);

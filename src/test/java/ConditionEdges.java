@@ -2,6 +2,9 @@
 final class ConditionEdges {
     private static final int BAD = -1, KIND = -2, FULL = -4, NO_ENTRY = -2;
     private static final long CENTS_END = 1000000000000000L, BEYOND_INT = 4294967296L;
+    /** Of each KIND from 2 on its least and its greatest VALUE. */
+    private static final long[][] ENDS = {{}, {}, {Integer.MIN_VALUE, Integer.MAX_VALUE}, {-CENTS_END, CENTS_END},
+        {-30000, 30000}, {0, 5}};
     private final Edges edges;
 
     ConditionEdges(Edges edges) {
@@ -97,10 +100,9 @@ final class ConditionEdges {
 
     private void askIs() {
         edges.about("Terms", "ASK of a QUESTION (its REACH is where that lies): 0 is v");
-        long[][] ends = {{}, {}, {Integer.MIN_VALUE, Integer.MAX_VALUE}, {-CENTS_END, CENTS_END}, {-30000, 30000}, {0, 5}};
         for (int kind = 2; kind < 6; kind++) {
             HouseholdVault x = oneOf(kind);
-            for (long end : ends[kind]) {
+            for (long end : ENDS[kind]) {
                 x.answer(0, 0, -1, end);
                 edges.is("it is " + end, x.holds(x.ask(0, 0, end), 0, -1), 1);
                 edges.is("it is not one more", x.holds(x.ask(0, 0, end + 1), 0, -1), 0);
@@ -140,10 +142,9 @@ final class ConditionEdges {
 
     private void askBelowAndAboveAtTheEnds() {
         edges.about("Terms", "1 below v, 2 above v (of KIND 2 to 5 alone),");
-        long[][] ends = {{}, {}, {Integer.MIN_VALUE, Integer.MAX_VALUE}, {-CENTS_END, CENTS_END}, {-30000, 30000}, {0, 5}};
         for (int kind = 2; kind < 6; kind++) {
             HouseholdVault x = oneOf(kind);
-            for (long end : ends[kind]) {
+            for (long end : ENDS[kind]) {
                 x.answer(0, 0, -1, end);
                 String told = "kind " + kind + ", " + end;
                 edges.is(told + " below itself", x.holds(x.ask(1, 0, end), 0, -1), 0);
@@ -238,6 +239,9 @@ final class ConditionEdges {
         edges.is("BOTH of the first", x.holds(both, 0, 0), 1);
         edges.is("BOTH of the last", x.holds(both, 0, 1), 0);
         edges.is("nobody is there", x.holds(either, 2, 0), BAD);
+        int notAtTop = x.logic(1, Scene.IN_ROSTER, Scene.AT_TOP);
+        edges.is("what is so of one PERSON is so of that one", x.holds(notAtTop, 0, 0), 1);
+        edges.is("and of no other", x.holds(notAtTop, 0, 1), 0);
     }
 
     private void not() {
@@ -302,7 +306,8 @@ final class ConditionEdges {
     }
 
     private void filtersReach() {
-        edges.about("Terms", "A FILTER of a QUESTION is a CONDITION that REACHES the TOP, or the ROSTER in which it lies,");
+        edges.about("Terms",
+            "A FILTER of a QUESTION is a CONDITION that REACHES the TOP, or the ROSTER in which it lies,");
         HouseholdVault x = Edges.built(Scene::crowd);
         int later = x.question(2, -1);
         int laterIn = x.question(2, Scene.ROSTER);
@@ -529,7 +534,8 @@ final class ConditionEdges {
     }
 
     private void holdsTells() {
-        edges.about("Promise 18", "Whether it is so (1, 0) of a HOUSEHOLD, of a PERSON there (-1, if it REACHES the TOP).");
+        edges.about("Promise 18",
+            "Whether it is so (1, 0) of a HOUSEHOLD, of a PERSON there (-1, if it REACHES the TOP).");
         HouseholdVault x = Edges.built(Scene::crowd);
         int[] atTop = {0, 1, 0};
         for (int h = 0; h < 3; h++) edges.is("household " + h, x.holds(Scene.AT_TOP, h, -1), atTop[h]);
@@ -585,7 +591,8 @@ final class ConditionEdges {
             edges.refused("MADE " + q, Scene::crowd, x -> x.filter(q, Scene.AT_TOP), KIND);
             edges.refused("MADE " + q + ", none", Scene::crowd, x -> x.filter(q, -1), KIND);
         }
-        edges.refused("REACH of a ROSTER at the TOP", Scene::crowd, x -> x.filter(Scene.ROSTER_2, Scene.IN_ROSTER), KIND);
+        edges.refused("REACH of a ROSTER at the TOP", Scene::crowd,
+            x -> x.filter(Scene.ROSTER_2, Scene.IN_ROSTER), KIND);
         edges.refused("REACH of another", Scene::crowd, x -> x.filter(Scene.WHOLE_IN_2, Scene.IN_ROSTER), KIND);
         edges.refused("itself", Scene::crowd, x -> x.filter(Scene.WHOLE, Scene.AT_TOP), KIND);
         edges.refused("itself IN the ROSTER", Scene::crowd, x -> x.filter(Scene.WHOLE_IN, Scene.IN_ROSTER), KIND);

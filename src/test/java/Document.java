@@ -65,7 +65,7 @@ final class Document {
             left.append(marks[i] ? '|' : text.charAt(i));
         }
         String bare = left.toString().replaceAll("Ahead of the calls .*? the interface says: ---- [a-z, ]+\\.", " ");
-        bare = bare.replaceAll("======== \\d", " ").replaceAll("\\|+", "|").strip();
+        bare = bare.replaceAll("======== \\d", " ").replaceAll("[| ]*\\|[| ]*", " | ").strip();
         return bare.matches("[| ]*") ? "" : bare;
     }
 }

@@ -346,7 +346,8 @@ final class EditionEdges {
     }
 
     private void mergeAtTheTop() {
-        edges.about("Promise 39", "ANSWERS that are MISSING now and were not in an EDITION (at the TOP but of ROSTERS;");
+        edges.about("Promise 39",
+            "ANSWERS that are MISSING now and were not in an EDITION (at the TOP but of ROSTERS;");
         HouseholdVault x = new HouseholdVault();
         for (int kind = 0; kind < 6; kind++) x.question(kind, -1);
         x.code(0, -128);
@@ -376,6 +377,17 @@ final class EditionEdges {
         edges.is("what is not MISSING now stays", x.value(1, 2, -1), 9);
         edges.is("what was MISSING then stays", x.value(1, 3, -1), 7);
         edges.is("nothing is left", x.merge(0), 0);
+        HouseholdVault made = new HouseholdVault();
+        made.question(2, -1);
+        made.map(0);
+        made.row(1, 5, 5, 3);
+        made.answer(made.household(), 0, -1, 5);
+        edges.is("a MADE one tells", made.value(0, 1, -1), 3);
+        made.freeze();
+        made.answer(0, 0, -1, 6);
+        edges.is("a MADE one is MISSING", made.reason(0, 1, -1), 4);
+        edges.is("it is not brought back", made.merge(0), 0);
+        edges.is("it is as it was", made.reason(0, 1, -1), 4);
     }
 
     private void mergeOfPersons() {

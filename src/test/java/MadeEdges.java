@@ -252,7 +252,8 @@ final class MadeEdges {
     }
 
     private void sumOfAllValues() {
-        edges.about("Terms", "SUM of a QUESTION of KIND 2, 3 IN a ROSTER: at the TOP, of its KIND: all VALUES together;");
+        edges.about("Terms",
+            "SUM of a QUESTION of KIND 2, 3 IN a ROSTER: at the TOP, of its KIND: all VALUES together;");
         HouseholdVault x = sums();
         x.answer(0, 1, 4, 7);
         sumIs("of the last alone", x, 3, 7, 0);
@@ -383,6 +384,7 @@ final class MadeEdges {
         int asked = x.ask(0, Scene.MAP, 70);
         edges.is("before", x.reason(2, Scene.MAP, -1), 4);
         edges.is("before", x.holds(asked, 2, -1), 0);
+        edges.is("before, MISSING", x.reason(0, Scene.MAP, -1), 3);
         edges.is("a TABLE", x.table(Scene.MAP, -1), 3);
         long weight = x.cell(2, 0, 1);
         edges.is("SHOWN", x.shown(3), 2);
@@ -397,6 +399,13 @@ final class MadeEdges {
         edges.is("a TABLE anew", x.table(Scene.MAP, -1), 4);
         edges.is("its last cell but one", x.cell(2, 0, 0), 1);
         edges.is("who was in a row stays there", x.value(1, Scene.MAP, -1), -60);
+        HouseholdVault all = new HouseholdVault();
+        all.question(2, -1);
+        all.map(0);
+        for (int h = 0; h < 40; h++) all.answer(all.household(), 0, -1, h);
+        for (int h = 0; h < 40; h++) edges.is("before, of " + h, all.reason(h, 1, -1), 4);
+        all.row(1, 0, 39, 5);
+        for (int h = 0; h < 40; h++) edges.is("behind, of " + h, all.value(h, 1, -1), 5);
     }
 
     private void howManyTellsItsNumber() {

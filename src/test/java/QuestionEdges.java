@@ -120,7 +120,8 @@ final class QuestionEdges {
     }
 
     private void whereAQuestionLies() {
-        edges.about("Terms", "One lies at the TOP, or IN a ROSTER (a QUESTION of KIND 5 at the TOP; it is none itself).");
+        edges.about("Terms",
+            "One lies at the TOP, or IN a ROSTER (a QUESTION of KIND 5 at the TOP; it is none itself).");
         HouseholdVault x = Edges.built(Scene::kinds);
         for (int q = 0; q < 6; q++) edges.is("at the TOP", x.of(q, 1), -1);
         for (int q = 6; q < 11; q++) edges.is("IN the ROSTER", x.of(q, 1), 5);
@@ -134,7 +135,8 @@ final class QuestionEdges {
     }
 
     private void codesOfTheirOwn() {
-        edges.about("Terms", "CODE and CODES have CODES of their own: -128 .. 127, 8 at most, in the order in which they came.");
+        edges.about("Terms",
+            "CODE and CODES have CODES of their own: -128 .. 127, 8 at most, in the order in which they came.");
         int[] codes = {127, -128, 0, -1, 126, -127, 1, 5};
         HouseholdVault x = Edges.built(Scene::kinds);
         for (int q : new int[] {0, 1, 6, 7}) {

@@ -118,8 +118,9 @@ final class RankEdges {
         HouseholdVault x = partsOf(2, 10, 20, 30);
         int[][] good = {{0, 1, 10}, {1, 1, 30}, {0, 1000, 10}, {1000, 1000, 30}, {500, 1000, 20}, {999, 1000, 20}};
         for (int[] g : good) edges.is(g[0] + " / " + g[1], x.part(0, 0, g[0], g[1]), g[2]);
-        int[][] bad = {{-1, 1}, {2, 1}, {1001, 1000}, {0, 0}, {1, 0}, {0, -1}, {-1, -1}, {0, 1001}, {1, 1001}, {1001, 1001},
-            {Integer.MIN_VALUE, 1}, {Integer.MAX_VALUE, 1000}, {0, Integer.MIN_VALUE}, {0, Integer.MAX_VALUE}};
+        int[][] bad = {{-1, 1}, {2, 1}, {1001, 1000}, {0, 0}, {1, 0}, {0, -1}, {-1, -1}, {0, 1001}, {1, 1001},
+            {1001, 1001}, {Integer.MIN_VALUE, 1}, {Integer.MAX_VALUE, 1000},
+            {0, Integer.MIN_VALUE}, {0, Integer.MAX_VALUE}};
         for (int[] b : bad) edges.is(b[0] + " / " + b[1], x.part(0, 0, b[0], b[1]), 0);
     }
 
@@ -234,7 +235,8 @@ final class RankEdges {
     }
 
     private void doublesOfPersons() {
-        edges.about("Terms", "and like ones of all PERSONS in ROSTERS that are (to all QUESTIONS in them that are not MADE):");
+        edges.about("Terms",
+            "and like ones of all PERSONS in ROSTERS that are (to all QUESTIONS in them that are not MADE):");
         HouseholdVault x = new HouseholdVault();
         x.question(5, -1);
         x.question(2, 0);
@@ -272,6 +274,14 @@ final class RankEdges {
         edges.is("nor is a ROSTER that is not MARKED", x.doubles(), 1);
         x.mark(4, true);
         edges.is("until it is", x.doubles(), 0);
+        HouseholdVault y = new HouseholdVault();
+        y.question(5, -1);
+        y.question(2, 0);
+        y.question(2, -1);
+        y.mark(0, true);
+        for (int h = 0; h < 2; h++) y.answer(y.household(), 0, -1, 5);
+        y.answer(0, 2, -1, 7);
+        edges.is("five PERSONS end ahead of the next QUESTION", y.doubles(), 1);
     }
 
     private void doublesInOrder() {
@@ -313,7 +323,9 @@ final class RankEdges {
 
     private void rankBad() {
         edges.about("Promise 29", "BAD;");
-        for (int q : Edges.noneOf(Scene.QUESTIONS)) edges.refused("question " + q, Scene::crowd, x -> x.rank(q, 0), BAD);
+        for (int q : Edges.noneOf(Scene.QUESTIONS)) {
+            edges.refused("question " + q, Scene::crowd, x -> x.rank(q, 0), BAD);
+        }
         for (int k : Edges.noneOf(Scene.HOUSEHOLDS)) {
             edges.refused("k " + k, Scene::crowd, x -> x.rank(Scene.WHOLE, k), BAD);
         }
@@ -323,7 +335,8 @@ final class RankEdges {
 
     private void rankKind() {
         edges.about("Promise 29", "KIND.");
-        int[] wrong = {Scene.CODES, Scene.CODE_IN, Scene.CODES_IN, Scene.WHOLE_IN, Scene.CENTS_IN, Scene.DAY_IN, Scene.MAP_IN};
+        int[] wrong = {Scene.CODES, Scene.CODE_IN, Scene.CODES_IN, Scene.WHOLE_IN, Scene.CENTS_IN, Scene.DAY_IN,
+            Scene.MAP_IN};
         for (int q : wrong) edges.refused("question " + q, Scene::crowd, x -> x.rank(q, 0), KIND);
     }
 
@@ -364,8 +377,8 @@ final class RankEdges {
 
     private void partKind() {
         edges.about("Promise 30", "KIND, too.");
-        int[] wrong = {Scene.CODE, Scene.CODES, Scene.ROSTER, Scene.CODE_IN, Scene.WHOLE_IN, Scene.CENTS_IN, Scene.DAY_IN,
-            Scene.MAP, Scene.MAP_IN};
+        int[] wrong = {Scene.CODE, Scene.CODES, Scene.ROSTER, Scene.CODE_IN, Scene.WHOLE_IN, Scene.CENTS_IN,
+            Scene.DAY_IN, Scene.MAP, Scene.MAP_IN};
         for (int q : wrong) edges.refused("question " + q, Scene::crowd, x -> x.part(q, Scene.AT_TOP, 0, 1), 0);
         for (int c : new int[] {Scene.IN_ROSTER, Scene.BOTH_IN, Scene.IN_ROSTER_2}) {
             edges.refused("condition " + c, Scene::crowd, x -> x.part(Scene.WHOLE, c, 0, 1), 0);

@@ -117,7 +117,8 @@ final class RefusalEdges {
         edges.refused("PERSON, MADE, VALUE", Scene::crowd, x -> x.answer(0, Scene.MAP_IN, -1, 4), BAD);
         edges.refused("MADE, VALUE", Scene::crowd, x -> x.answer(0, Scene.SUM, -1, 2147483648L), KIND);
         edges.refused("MADE, VALUE of a MAP", Scene::crowd, x -> x.answer(0, Scene.MAP_IN, 0, 4), KIND);
-        edges.refused("MADE, VALUE of HOW MANY", Scene::crowd, x -> x.answer(0, Scene.HOW_MANY, -1, Long.MIN_VALUE), KIND);
+        edges.refused("MADE, VALUE of HOW MANY", Scene::crowd,
+            x -> x.answer(0, Scene.HOW_MANY, -1, Long.MIN_VALUE), KIND);
         edges.refused("PLACE, VALUE", Scene::crowd, x -> x.answer(3, Scene.DAY, -1, 30001), BAD);
     }
 
@@ -171,7 +172,8 @@ final class RefusalEdges {
         edges.about("Terms", FIRST);
         edges.refused("filter: BAD CONDITION, MADE", Scene::crowd, x -> x.filter(Scene.MAP, Scene.CONDITIONS), BAD);
         edges.refused("filter: BAD below, MADE", Scene::crowd, x -> x.filter(Scene.SUM, -2), BAD);
-        edges.refused("filter: BAD QUESTION, REACH", Scene::crowd, x -> x.filter(Scene.QUESTIONS, Scene.IN_ROSTER), BAD);
+        edges.refused("filter: BAD QUESTION, REACH", Scene::crowd,
+            x -> x.filter(Scene.QUESTIONS, Scene.IN_ROSTER), BAD);
         edges.refused("filter: MADE, not elder", Scene::crowd, x -> x.filter(Scene.MAP, Scene.IN_ROSTER_2), KIND);
     }
 

@@ -175,7 +175,7 @@ final class State {
         }
     }
 
-    /** Calls that do change something: the numbers that they answer tell of what cannot be read, as rows and weights. */
+    /** Calls that do change something: what they answer tells of what cannot be read, as rows and weights. */
     private List<Ask> nextOnes() {
         for (int h : few(counts[1])) {
             for (int n = 0; n < counts[0]; n++) {

@@ -275,8 +275,8 @@ final class TableEdges {
     }
 
     private void follow() {
-        edges.about("Terms", "A cell HELD BACK FOLLOWS, if each table of whole numbers (any, below 0, too) that has the "
-            + "same sum in each LINE, and the same in cells that are not HELD BACK, has the same in it.");
+        edges.about("Terms", "A cell HELD BACK FOLLOWS, if each table of whole numbers (any, below 0, too) that has "
+            + "the same sum in each LINE, and the same in cells that are not HELD BACK, has the same in it.");
         HouseholdVault x = grid(row(1, 0), row(1, 0));
         edges.is("the column of 0 could be 1 and -1", x.shown(2), 4);
         edges.is("so that none FOLLOWS", x.follows(), 0);
@@ -415,6 +415,15 @@ final class TableEdges {
         edges.is("a lesser one", x.table(1, -1), 1);
         edges.is("its cells alone are there", x.cell(1, 0, 0), BAD);
         edges.is("its cells alone are there", x.share(1, 0), BAD);
+        HouseholdVault y = grid(row(2, 3), row(5, 4));
+        // Remainders 12, 11, 9, 10, of which 9 gets none; then 6 and 8: it may not come behind them.
+        edges.is("SHARES of four", y.shares(13), 1);
+        y.table(0, -1);
+        edges.is("SHARES of two", y.shares(4), 1);
+        shares("of two", y, row(1), row(3));
+        y.table(1, 0);
+        edges.is("turned", y.shares(14), 1);
+        shares("turned", y, row(2, 5), row(3, 4));
     }
 
     private void tableBadAndKind() {
@@ -473,6 +482,11 @@ final class TableEdges {
         edges.is("the last of 81", widest.cell(8, 8, 0), 0);
         edges.is("row 9", widest.cell(9, 0, 0), BAD);
         edges.is("column 9", widest.cell(0, 9, 0), BAD);
+        widest.household();
+        widest.table(0, 1);
+        edges.is("the last of 81 is counted", widest.cell(8, 8, 0), 1);
+        edges.is("SHARES of 81", widest.shares(1000000), 1);
+        edges.is("the last SHARE", widest.share(8, 8), 1000000);
     }
 
     private void sharesTellsOne() {
@@ -564,6 +578,13 @@ final class TableEdges {
         edges.is("1000", x.shown(1000), 3);
         HouseholdVault none = line(0, 0, 0);
         edges.is("no HOUSEHOLDS", none.shown(1000), 0);
+        HouseholdVault widest = grid(new int[9], new int[9], new int[9], new int[9], new int[9], new int[9], new int[9],
+            new int[9], row(0, 0, 0, 0, 0, 0, 0, 0, 1));
+        // The last row goes cell by cell, then 0, 0 in its column, 0, 1 beside it, and the first of each column.
+        edges.is("the last of 81, with two rows", widest.shown(2), 18);
+        String open = ".........";
+        held("of 81", widest, "xxxxxxxxx", open, open, open, open, open, open, open, "xxxxxxxxx");
+        edges.is("none FOLLOWS", widest.follows(), 0);
     }
 
     private void shownAsIfNoneWereBefore() {
@@ -587,7 +608,8 @@ final class TableEdges {
     }
 
     private void followsTells() {
-        edges.about("Promise 28", "0: no cell that is HELD BACK FOLLOWS; else 1 and the number of the first (row by row).");
+        edges.about("Promise 28",
+            "0: no cell that is HELD BACK FOLLOWS; else 1 and the number of the first (row by row).");
         HouseholdVault x = line(1, 9);
         edges.is("none is HELD BACK", x.follows(), 0);
         x.shown(2);
