@@ -197,8 +197,9 @@ public final class HouseholdVault {
         }
     }
 
+    /** At the TOP, where the person is NONE, the spot of the first person serves. */
     private static int spot(int q, int person) {
-        return q * MOST_PERSONS + Math.max(person, 0);
+        return q * MOST_PERSONS + (person > 0 ? person : 0);
     }
 
     private static boolean isPlace(Sheet sheet, int reach, int person) {
@@ -878,17 +879,17 @@ public final class HouseholdVault {
 
         void settle(Household home) {
             for (int s = home.settled; s < stepCount; s++) {
-                if (steps[s] < MOST_QUESTIONS) makeAnswers(home, steps[s]);
-                else makeTruths(home, steps[s] - MOST_QUESTIONS);
+                int step = steps[s];
+                if (step >= MOST_QUESTIONS) makeTruths(home, step - MOST_QUESTIONS);
+                else if (questions[step].made == MAP) makeMapped(home.sheet, step);
+                else if (questions[step].made == SUM) makeSum(home.sheet, step);
+                else makeHowMany(home, step);
             }
             home.settled = stepCount;
         }
 
-        private void makeAnswers(Household home, int q) {
-            Question asked = questions[q];
-            if (asked.made == MAP) makeMapped(home.sheet, q);
-            else if (asked.made == SUM) makeSum(home.sheet, q);
-            else home.sheet.put(spot(q, NONE), Integer.bitCount(home.truths[asked.source]));
+        private void makeHowMany(Household home, int q) {
+            home.sheet.put(spot(q, NONE), Integer.bitCount(home.truths[questions[q].source]));
         }
 
         private void makeMapped(Sheet sheet, int q) {
@@ -923,7 +924,8 @@ public final class HouseholdVault {
 
         private void makeTruths(Household home, int c) {
             Condition made = conditions[c];
-            int all = (1 << placesOf(home.sheet, made.reach)) - 1;
+            int places = placesOf(home.sheet, made.reach);
+            int all = (1 << places) - 1;
             switch (made.way) {
                 case BOTH:
                     home.truths[c] = spread(home, made.first, all) & spread(home, made.second, all);
@@ -938,7 +940,7 @@ public final class HouseholdVault {
                     home.truths[c] = Integer.bitCount(home.truths[made.first]) >= made.v ? 1 : 0;
                     break;
                 default:
-                    home.truths[c] = bitsOfAsk(home.sheet, made);
+                    home.truths[c] = bitsOfAsk(home.sheet, made, places);
             }
         }
 
@@ -948,9 +950,8 @@ public final class HouseholdVault {
             return home.truths[c] == 0 ? 0 : all;
         }
 
-        private int bitsOfAsk(Sheet sheet, Condition made) {
+        private int bitsOfAsk(Sheet sheet, Condition made, int places) {
             boolean isSet = questions[made.first].kind == CODES;
-            int places = placesOf(sheet, made.reach);
             int bits = 0;
             for (int p = 0; p < places; p++) {
                 int from = spot(made.first, p);
